@@ -517,6 +517,9 @@ public final class GraphTwins {
      * in one long, so that rows of one length compare as the longs do.
      */
     private static final class FormFinder {
+        /** A row has at most 34 bits. */
+        private static final long ABOVE_ALL_ROWS = 1L << 40;
+
         /** rows[d][w]: the row of w, as far as d vertices that are written tell it. */
         private final long[][] rows = new long[MOST_VERTICES][MOST_VERTICES];
         private final long[] written = new long[MOST_VERTICES];
@@ -526,7 +529,7 @@ public final class GraphTwins {
         private final int[] likes = new int[MOST_VERTICES];
 
         void find(Graph graph) {
-            Arrays.fill(graph.formRows, Long.MAX_VALUE);
+            Arrays.fill(graph.formRows, ABOVE_ALL_ROWS);
             for (int v = 0; v < graph.size; v++) {
                 rows[0][v] = graph.tints[v];
                 likes[v] = lesserLikes(graph, v);
@@ -567,7 +570,7 @@ public final class GraphTwins {
 
         /** As bits, the vertices whose row is the least now; of those that are alike one is enough. */
         private int candidates(Graph graph, int depth, int taken) {
-            long least = Long.MAX_VALUE;
+            long least = ABOVE_ALL_ROWS;
             int found = 0;
             for (int v = 0; v < graph.size; v++) {
                 if ((taken >> v & 1) == 0 && (likes[v] & ~taken) == 0 && rows[depth][v] <= least) {

@@ -46,7 +46,7 @@ public final class ReferenceTest {
 
     private void begin(int size) {
         due("begin(" + size + ")", twins.begin(size), reference.begin(size));
-        n = size;
+        n = reference.count(0);
     }
 
     private void runCalls(int size, int calls) {
@@ -54,7 +54,9 @@ public final class ReferenceTest {
         int marks = 1 + below(3);
         for (int i = 0; i < calls && CHECKS.allRight(); i++) {
             int kind = below(24);
-            if (kind < 8) {
+            if (below(60) == 0) {
+                begin(nearly(size + 1));
+            } else if (kind < 8) {
                 change(kind, marks);
             } else {
                 ask(kind);
