@@ -1,6 +1,7 @@
 /** Runs of calls, made by a fixed rule, whose answers must be those of the plain reference. */
 public final class ReferenceTest {
-    private static final int CALLS = 300;
+    /** More calls on one object than 512 are not promised; one step of a run is at most ten of them. */
+    private static final int MOST_CALLS = 512 - 10;
 
     private static final Checks CHECKS = new Checks();
 
@@ -9,6 +10,7 @@ public final class ReferenceTest {
     private final StringBuilder log = new StringBuilder();
     private long state;
     private int n = 1;
+    private int calls = 0;
 
     private ReferenceTest(long seed) {
         state = seed;
@@ -16,13 +18,16 @@ public final class ReferenceTest {
 
     public static void main(String[] args) {
         for (int run = 0; run < 240 && CHECKS.allRight(); run++) {
-            new ReferenceTest(run).runCalls(1 + run % 6, CALLS);
+            new ReferenceTest(run).runCalls(1 + run % 6);
         }
         for (int run = 0; run < 6 && CHECKS.allRight(); run++) {
-            new ReferenceTest(1000 + run).runCalls(7, CALLS);
+            new ReferenceTest(1000 + run).runCalls(7);
         }
         for (int shape = 0; shape < 6 && CHECKS.allRight(); shape++) {
             new ReferenceTest(2000 + shape).runNine(shape);
+        }
+        for (int size : new int[] {1, 2, 3, 9}) {
+            sweep(size);
         }
         CHECKS.end();
     }
@@ -38,6 +43,7 @@ public final class ReferenceTest {
     }
 
     private void due(String call, int got, int want) {
+        calls++;
         log.append(call).append(' ');
         if (got != want && CHECKS.allRight()) {
             CHECKS.due(log + "\n" + call, got, want);
@@ -49,10 +55,10 @@ public final class ReferenceTest {
         n = reference.count(0);
     }
 
-    private void runCalls(int size, int calls) {
+    private void runCalls(int size) {
         begin(size);
         int marks = 1 + below(3);
-        for (int i = 0; i < calls && CHECKS.allRight(); i++) {
+        while (calls <= MOST_CALLS && CHECKS.allRight()) {
             int kind = below(24);
             if (below(60) == 0) {
                 begin(nearly(size + 1));
@@ -138,6 +144,48 @@ public final class ReferenceTest {
 
     private void askCount(int which) {
         due("count(" + which + ")", twins.count(which), reference.count(which));
+    }
+
+    /** Every call with every input that is near a boundary. */
+    private static void sweep(int size) {
+        int[] inputs = {
+            Integer.MIN_VALUE, -2, -1, 0, 1, 2, 3, 4, 5, size - 1, size, size + 1, size * size - 1, size * size,
+            8, 9, 10, 80, 81, Integer.MAX_VALUE,
+        };
+        for (int a : inputs) {
+            for (int b : inputs) {
+                ReferenceTest run = new ReferenceTest(0);
+                run.begin(size);
+                run.sweepChanges(a, b, inputs);
+                // The reference takes too long to ask it so often about nine vertices.
+                if (size < 5) {
+                    run.sweepQuestions(a, b);
+                }
+                run.begin(a);
+            }
+        }
+    }
+
+    private void sweepChanges(int a, int b, int[] inputs) {
+        for (int c : inputs) {
+            for (int d : inputs) {
+                label(a, b, c, d);
+            }
+            tint(a, b, c);
+            exchange(a, b, c);
+        }
+        copy(a);
+        due("colour(" + a + ", " + b + ")", twins.colour(a, b), reference.colour(a, b));
+    }
+
+    private void sweepQuestions(int a, int b) {
+        askTwins();
+        due("image(" + a + ")", twins.image(a), reference.image(a));
+        due("symmetries(" + a + ")", twins.symmetries(a), reference.symmetries(a));
+        due("orbit(" + a + ", " + b + ")", twins.orbit(a, b), reference.orbit(a, b));
+        askForm(a, b);
+        due("compare(" + a + ")", twins.compare(a), reference.compare(a));
+        askCount(a);
     }
 
     /** Nine vertices have 362880 namings: few questions, but on graphs of many shapes. */
