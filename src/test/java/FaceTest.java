@@ -16,7 +16,7 @@ public final class FaceTest {
 
     private static final Checks CHECKS = new Checks();
 
-    public static void main(String[] args) {
+    public static void main(String[] args) throws NoSuchFieldException {
         CHECKS.due("modifiers of the class", GraphTwins.class.getModifiers(), Modifier.PUBLIC | Modifier.FINAL);
         methods();
         fields();
@@ -58,7 +58,11 @@ public final class FaceTest {
         }
     }
 
-    private static void fields() {
+    private static void fields() throws NoSuchFieldException {
+        Field bad = GraphTwins.class.getField("BAD");
+        CHECKS.due("modifiers of BAD", bad.getModifiers(), Modifier.PUBLIC | Modifier.STATIC | Modifier.FINAL);
+        CHECKS.due("BAD is an int", bad.getType() == int.class ? 1 : 0, 1);
+        CHECKS.due("BAD", GraphTwins.BAD, -1);
         for (Field field : GraphTwins.class.getDeclaredFields()) {
             if (isOpen(field) && !field.getName().equals("BAD")) {
                 CHECKS.fail(field + " is not private");

@@ -9,6 +9,9 @@ final class Lively {
     static final int[] WRONG_VERTICES = {-1, SIZE, 6, 8, 9, Integer.MIN_VALUE, Integer.MAX_VALUE};
     static final int[] WRONG_MARKS = {-1, 4, 5, Integer.MIN_VALUE, Integer.MAX_VALUE};
 
+    /** More namings than are left behind any that is at hand here, so that a next() that always answers 1 is seen. */
+    private static final int MOST_LEFT = 6;
+
     interface Call {
         int on(GraphTwins x);
     }
@@ -63,7 +66,7 @@ final class Lively {
     static List<Integer> rest(GraphTwins x) {
         List<Integer> rest = new ArrayList<>();
         int n = x.count(0);
-        while (x.next() == 1) {
+        for (int left = 0; left < MOST_LEFT && x.next() == 1; left++) {
             for (int v = 0; v < n; v++) {
                 rest.add(x.image(v));
             }

@@ -298,11 +298,10 @@ public final class NamingBoundariesTest {
         }
         Lively.answers(x);
         CHECKS.dueNaming("behind all questions", x, naming);
-        int left = 0;
-        while (x.next() == 1) {
-            left++;
+        for (int number = 4; number <= 6; number++) {
+            due("next() to naming " + number + " of six", x.next(), 1);
         }
-        due("namings behind the third of six", left, 3);
+        due("next() behind the last one", x.next(), 0);
     }
 
     // Promise 11

@@ -3,7 +3,6 @@ public final class PromisesTest {
     private static final Checks CHECKS = new Checks();
 
     public static void main(String[] args) {
-        due("BAD", GraphTwins.BAD, -1);
         newObject();
         begin();
         label();
